@@ -611,9 +611,10 @@ public final class BorderStones {
             int matched = 0;
             for (int i = 0; i < OWN_WORDS.length(); i++) {
                 char sign = OWN_WORDS.charAt(i);
+                int at = start + matched;
                 if (sign != ' ') {
-                    matched = matched != NONE && byteAt(start + matched) == sign ? matched + 1 : NONE;
-                } else if (matched == many()) {
+                    matched = matched != NONE && at < length && text[at] == sign ? matched + 1 : NONE;
+                } else if (at == behind) {
                     return word;
                 } else {
                     word++;
@@ -1082,12 +1083,11 @@ public final class BorderStones {
             if (tokens.isSign('[')) {
                 return opens() && readTest() && closes(']');
             }
-            return readSum() && readComparison();
-        }
-
-        private boolean readComparison() {
-            int step = tokens.isSign('<') ? Formula.LESS : tokens.isSign('>') ? Formula.MORE : Formula.SAME;
-            if (step == Formula.SAME && !tokens.isSign('=')) {
+            if (!readSum()) {
+                return false;
+            }
+            int step = comparison();
+            if (step == 0) {
                 return fail(UNFIT, tokens.start);
             }
             tokens.next();
@@ -1096,6 +1096,17 @@ public final class BorderStones {
             }
             formula.add(step);
             return true;
+        }
+
+        /** The step that the token's SIGN stands for, 0 if it is none. */
+        private int comparison() {
+            if (tokens.isSign('<')) {
+                return Formula.LESS;
+            }
+            if (tokens.isSign('>')) {
+                return Formula.MORE;
+            }
+            return tokens.isSign('=') ? Formula.SAME : 0;
         }
 
         private boolean opens() {
@@ -1108,8 +1119,12 @@ public final class BorderStones {
         }
 
         private boolean closes(int sign) {
+            if (!tokens.isSign(sign)) {
+                return fail(UNFIT, tokens.start);
+            }
             open--;
-            return askSign(sign);
+            tokens.next();
+            return true;
         }
 
         private boolean readSum() {
@@ -1430,7 +1445,7 @@ public final class BorderStones {
             owed = 0;
             if (place != NONE) {
                 put(side, kind, place);
-                owed = freshParts(side, before, shutBy(side));
+                owed = freshParts(side, before, ground.shutIn(edgeOf(side)));
             }
             day++;
         }

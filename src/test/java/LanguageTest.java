@@ -28,6 +28,14 @@ public final class LanguageTest {
         CHECK.close("LanguageTest");
     }
 
+    private static Set<String> faceNames() {
+        Set<String> names = new TreeSet<>();
+        for (String signature : FACE) {
+            names.add(signature.substring(0, signature.indexOf('(')));
+        }
+        return names;
+    }
+
     private static void face() {
         Class<?> c = BorderStones.class;
         CHECK.due("public and final", Modifier.isPublic(c.getModifiers()) && Modifier.isFinal(c.getModifiers()), true);
@@ -38,6 +46,7 @@ public final class LanguageTest {
                 shown.add(m.getName() + "(" + params + ")" + m.getReturnType());
             } else {
                 CHECK.due("private: " + m.getName(), Modifier.isPrivate(m.getModifiers()), true);
+                CHECK.due("another name than the face's: " + m, faceNames().contains(m.getName()), false);
             }
         }
         CHECK.due("the face's methods are " + shown, shown.equals(new TreeSet<>(FACE)), true);
@@ -56,10 +65,7 @@ public final class LanguageTest {
     }
 
     private static void classes() {
-        Set<String> names = new TreeSet<>();
-        for (String signature : FACE) {
-            names.add(signature.substring(0, signature.indexOf('(')));
-        }
+        Set<String> names = faceNames();
         Class<?>[] inside = BorderStones.class.getDeclaredClasses();
         CHECK.due("at most twelve classes", inside.length + 1 <= 12, true);
         for (Class<?> c : inside) {

@@ -99,6 +99,10 @@ public final class StonesTest {
         x.set(0, -1);
         CHECK.due("blue has none", x.fork(0), -1);
         CHECK.due("none of one part", Check.with(NEARLY).fork(0), -1);
+        // The last corner: two new sides and a slant, that part the middle into four.
+        x = Check.with("field 5 5;kind s reach 4;stone s red at 4 0;stone s red at 0 4;stone s red at 4 4;");
+        CHECK.due("a corner", x.fork(0), 0);
+        CHECK.due("in four parts", x.threat(0, 0, 1), 4);
     }
 
     private static void lines() {
@@ -117,6 +121,8 @@ public final class StonesTest {
         CHECK.due("no stone here", x.line(1, 0), -1);
         CHECK.due("one stone alone", x.line(0, 0), -1);
         CHECK.due("no place", x.line(0, 25), -1);
+        CHECK.due("no place 66", x.line(0, 66), -1);
+        CHECK.due("no place 64", x.line(64, 2), -1);
         CHECK.due("no place below 0", x.line(-1, 0), -1);
     }
 

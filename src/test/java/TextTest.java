@@ -219,6 +219,11 @@ public final class TextTest {
         fault(1, FIELD + "worth |k when all;");
         fault(1, FIELD + "worth 1 when|;");
         fault(1, FIELD + "worth 1 when 1|;");
+        fault(1, FIELD + "worth 1 when 1 <|;");
+        fault(1, FIELD + "worth 1 when 1 = |all;");
+        fault(1, FIELD + "worth 1 when 1 >|> 2;");
+        fault(1, FIELD + "worth 1 * |;");
+        fault(1, FIELD + "worth 1 when [all and|];");
         fault(1, FIELD + "worth 1 when 1 < 2 |< 3;");
         fault(1, FIELD + "worth 1 when (1 |< 2);");
         fault(1, FIELD + "worth 1 when [all|);");
@@ -256,6 +261,8 @@ public final class TextTest {
         fault(5, five + " |kind kf reach 1;");
         fault(5, five + "|kind at");
         fault(1, five + "|kinds");
+        fault(3, five + "stone |kf red at 1 1;");
+        fine(7, five + "stone ke red at 1 1;");
         StringBuilder twenty = new StringBuilder(KIND);
         for (int i = 0; i < 20; i++) {
             twenty.append("stone k red at ").append(i % 5).append(' ').append(i / 5).append(";\n");
