@@ -68,119 +68,97 @@ public final class TextTest {
         CHECK.due("the tape goes", x.end(1), false);
     }
 
-    /** A text whose fault is at where the bar stands. */
-    private static void fault(int kind, String marked) {
-        int at = marked.indexOf('|');
-        String text = marked.substring(0, at) + marked.substring(at + 1);
-        BorderStones x = new BorderStones();
-        Check.feed(x, text);
-        CHECK.due("border of " + text, x.border(), -1);
-        CHECK.due("fault(0) of " + text, x.fault(0), kind);
-        CHECK.due("fault(1) of " + text, x.fault(1), at);
-        CHECK.due("fault(2) of " + text, x.fault(2), -1);
-        CHECK.due("fault(-1) of " + text, x.fault(-1), -1);
-        CHECK.due("has(0) of " + text, x.has(0), 0);
-    }
-
-    private static void fine(int statements, String text) {
-        BorderStones x = new BorderStones();
-        Check.feed(x, text);
-        CHECK.due("border of " + text, x.border(), statements);
-        CHECK.due("fault(0) of " + text, x.fault(0), 0);
-        CHECK.due("fault(1) of " + text, x.fault(1), -1);
-    }
-
     private static void fields() {
-        fault(1, "|");
-        fault(1, "   |");
-        fault(1, " \n|");
-        fault(1, "|x;");
-        fault(1, "|;");
-        fault(1, "|fie");
-        fault(1, "|fields 5 5;");
-        fault(1, "|Field 5 5;");
-        fault(1, "|kind k reach 1;");
-        fault(1, "field|");
-        fault(1, "field |");
-        fault(1, "field|5 5;");
-        fault(1, "field|\t5 5;");
-        fault(1, "field |x 5;");
-        fault(1, "field 5|");
-        fault(1, "field 5|;");
-        fault(1, "field 5 5|");
-        fault(1, "field 5 5 |");
-        fault(1, "field 5 5 |5;");
-        fault(1, "field 5 5|x;");
-        fault(1, "field 5 5;|;");
-        fault(1, "field 5 5; |field 5 5;");
-        fault(1, "field 5 5; |" + (char) 233);
-        fault(1, "field 1234|5 5;");
-        fault(1, "field 5 0000|5;");
-        fault(2, "field |2");
-        fault(2, "field |8 5;");
-        fault(2, "field |9999 5;");
-        fault(2, "field |9x");
-        fault(2, "field 5 |2;");
-        fault(2, "field 5 |8;");
-        fault(2, "field 7 |6;");
-        fault(2, "field 6 |7;");
-        fine(1, "field 3 3;");
-        fine(1, "field 7 5;");
-        fine(1, "field 5 7;");
-        fine(1, "field 6 6;");
-        fine(1, "\n field\n0005 \n5 ; \n");
+        CHECK.fault(1, "|");
+        CHECK.fault(1, "   |");
+        CHECK.fault(1, " \n|");
+        CHECK.fault(1, "|x;");
+        CHECK.fault(1, "|;");
+        CHECK.fault(1, "|fie");
+        CHECK.fault(1, "|fields 5 5;");
+        CHECK.fault(1, "|Field 5 5;");
+        CHECK.fault(1, "|kind k reach 1;");
+        CHECK.fault(1, "field|");
+        CHECK.fault(1, "field |");
+        CHECK.fault(1, "field|5 5;");
+        CHECK.fault(1, "field|\t5 5;");
+        CHECK.fault(1, "field |x 5;");
+        CHECK.fault(1, "field 5|");
+        CHECK.fault(1, "field 5|;");
+        CHECK.fault(1, "field 5 5|");
+        CHECK.fault(1, "field 5 5 |");
+        CHECK.fault(1, "field 5 5 |5;");
+        CHECK.fault(1, "field 5 5|x;");
+        CHECK.fault(1, "field 5 5;|;");
+        CHECK.fault(1, "field 5 5; |field 5 5;");
+        CHECK.fault(1, "field 5 5; |" + (char) 233);
+        CHECK.fault(1, "field 1234|5 5;");
+        CHECK.fault(1, "field 5 0000|5;");
+        CHECK.fault(2, "field |2");
+        CHECK.fault(2, "field |8 5;");
+        CHECK.fault(2, "field |9999 5;");
+        CHECK.fault(2, "field |9x");
+        CHECK.fault(2, "field 5 |2;");
+        CHECK.fault(2, "field 5 |8;");
+        CHECK.fault(2, "field 7 |6;");
+        CHECK.fault(2, "field 6 |7;");
+        CHECK.fine(1, "field 3 3;");
+        CHECK.fine(1, "field 7 5;");
+        CHECK.fine(1, "field 5 7;");
+        CHECK.fine(1, "field 6 6;");
+        CHECK.fine(1, "\n field\n0005 \n5 ; \n");
     }
 
     private static void kinds() {
-        fault(1, FIELD + "kind|");
-        fault(1, FIELD + "kind |");
-        fault(1, FIELD + "kind |5 reach 1;");
-        fault(1, FIELD + "kind |at reach 1;");
-        fault(1, FIELD + "kind |across reach 1;");
-        fault(1, FIELD + "kind abcdef|g reach 1;");
-        fault(1, FIELD + "kind across|x reach 1;");
-        fault(1, FIELD + "kind abc|D reach 1;");
-        fault(1, FIELD + "kind k|5 reach 1;");
-        fault(1, FIELD + "kind k|");
-        fault(1, FIELD + "kind k |reac 1;");
-        fault(1, FIELD + "kind k |reaches 1;");
-        fault(1, FIELD + "kind k reach|;");
-        fault(1, FIELD + "kind k reach|1;");
-        fault(1, FIELD + "kind k reach 0000|1;");
-        fault(1, FIELD + "kind k reach 1|high;");
-        fault(1, FIELD + "kind k reach 1 |low;");
-        fault(1, FIELD + "kind k reach 1 |2;");
-        fault(1, FIELD + "kind k reach 1 high |high;");
-        fault(1, FIELD + "kind k reach 1 sunk child high |sunk;");
-        fault(1, FIELD + "kind k reach 1 child|");
-        fault(2, FIELD + "kind k reach |0;");
-        fault(2, FIELD + "kind k reach |7;");
-        fault(2, FIELD + "kind k reach |7high;");
-        fault(3, KIND + "kind |k reach 1;");
-        fault(3, KIND + "kind |k");
-        fine(2, FIELD + "kind abcdef reach 6 child sunk high;");
-        fine(3, KIND + "kind kk reach 1;");
-        fine(2, FIELD + "kind atx reach 1;");
+        CHECK.fault(1, FIELD + "kind|");
+        CHECK.fault(1, FIELD + "kind |");
+        CHECK.fault(1, FIELD + "kind |5 reach 1;");
+        CHECK.fault(1, FIELD + "kind |at reach 1;");
+        CHECK.fault(1, FIELD + "kind |across reach 1;");
+        CHECK.fault(1, FIELD + "kind abcdef|g reach 1;");
+        CHECK.fault(1, FIELD + "kind across|x reach 1;");
+        CHECK.fault(1, FIELD + "kind abc|D reach 1;");
+        CHECK.fault(1, FIELD + "kind k|5 reach 1;");
+        CHECK.fault(1, FIELD + "kind k|");
+        CHECK.fault(1, FIELD + "kind k |reac 1;");
+        CHECK.fault(1, FIELD + "kind k |reaches 1;");
+        CHECK.fault(1, FIELD + "kind k reach|;");
+        CHECK.fault(1, FIELD + "kind k reach|1;");
+        CHECK.fault(1, FIELD + "kind k reach 0000|1;");
+        CHECK.fault(1, FIELD + "kind k reach 1|high;");
+        CHECK.fault(1, FIELD + "kind k reach 1 |low;");
+        CHECK.fault(1, FIELD + "kind k reach 1 |2;");
+        CHECK.fault(1, FIELD + "kind k reach 1 high |high;");
+        CHECK.fault(1, FIELD + "kind k reach 1 sunk child high |sunk;");
+        CHECK.fault(1, FIELD + "kind k reach 1 child|");
+        CHECK.fault(2, FIELD + "kind k reach |0;");
+        CHECK.fault(2, FIELD + "kind k reach |7;");
+        CHECK.fault(2, FIELD + "kind k reach |7high;");
+        CHECK.fault(3, KIND + "kind |k reach 1;");
+        CHECK.fault(3, KIND + "kind |k");
+        CHECK.fine(2, FIELD + "kind abcdef reach 6 child sunk high;");
+        CHECK.fine(3, KIND + "kind kk reach 1;");
+        CHECK.fine(2, FIELD + "kind atx reach 1;");
     }
 
     private static void stones() {
-        fault(1, KIND + "stone|");
-        fault(1, KIND + "stone |red at 1 1;");
-        fault(1, KIND + "stone abcdef|g red at 1 1;");
-        fault(1, KIND + "stone k |green at 1 1;");
-        fault(1, KIND + "stone k |reds at 1 1;");
-        fault(1, KIND + "stone k red |1 1;");
-        fault(1, KIND + "stone k red at|1 1;");
-        fault(1, KIND + "stone k red at 1|;");
-        fault(1, KIND + "stone k red at 1 1|");
-        fault(1, KIND + "stone k red at 1 1 |high;");
-        fault(2, KIND + "stone k red at |5 1;");
-        fault(2, KIND + "stone k red at 1 |5;");
-        fault(2, KIND + "stone k red at 1 1;stone k blue at 1 |1;");
-        fault(3, KIND + "stone |x red at 1 1;");
-        fault(3, FIELD + "stone |k red at 1 1;kind k reach 2;");
-        fault(3, KIND + "stone |kk red at 1 1;");
-        fault(3, KIND + "stone |kred at 1 1;");
+        CHECK.fault(1, KIND + "stone|");
+        CHECK.fault(1, KIND + "stone |red at 1 1;");
+        CHECK.fault(1, KIND + "stone abcdef|g red at 1 1;");
+        CHECK.fault(1, KIND + "stone k |green at 1 1;");
+        CHECK.fault(1, KIND + "stone k |reds at 1 1;");
+        CHECK.fault(1, KIND + "stone k red |1 1;");
+        CHECK.fault(1, KIND + "stone k red at|1 1;");
+        CHECK.fault(1, KIND + "stone k red at 1|;");
+        CHECK.fault(1, KIND + "stone k red at 1 1|");
+        CHECK.fault(1, KIND + "stone k red at 1 1 |high;");
+        CHECK.fault(2, KIND + "stone k red at |5 1;");
+        CHECK.fault(2, KIND + "stone k red at 1 |5;");
+        CHECK.fault(2, KIND + "stone k red at 1 1;stone k blue at 1 |1;");
+        CHECK.fault(3, KIND + "stone |x red at 1 1;");
+        CHECK.fault(3, FIELD + "stone |k red at 1 1;kind k reach 2;");
+        CHECK.fault(3, KIND + "stone |kk red at 1 1;");
+        CHECK.fault(3, KIND + "stone |kred at 1 1;");
         BorderStones x = Check.with("field 4 3;kind k reach 2;kind l reach 1;stone l blue at 3 2;stone k red at 0 1;");
         CHECK.due("a stone's side", x.place(11, 0), 1);
         CHECK.due("a stone's kind", x.place(11, 1), 1);
@@ -189,11 +167,11 @@ public final class TextTest {
     }
 
     private static void land() {
-        fault(1, FIELD + "land|");
-        fault(1, FIELD + "land |k at 1 1;");
-        fault(1, FIELD + "land red |1 1;");
-        fault(2, FIELD + "land red at |5 1;");
-        fault(2, FIELD + "land red at 1 |5;");
+        CHECK.fault(1, FIELD + "land|");
+        CHECK.fault(1, FIELD + "land |k at 1 1;");
+        CHECK.fault(1, FIELD + "land red |1 1;");
+        CHECK.fault(2, FIELD + "land red at |5 1;");
+        CHECK.fault(2, FIELD + "land red at 1 |5;");
         BorderStones x = Check.with("field 4 3;land red at 3 1;land blue at 0 0;land blue at 3 1;");
         CHECK.due("the last land counts", x.place(7, 2), 1);
         CHECK.due("the first does not", x.side(0, 5), 0);
@@ -202,54 +180,54 @@ public final class TextTest {
     }
 
     private static void rules() {
-        fault(1, FIELD + "worth|");
-        fault(1, FIELD + "worth |when all;");
-        fault(1, FIELD + "worth |-1 when all;");
-        fault(1, FIELD + "worth 1234|5 when all;");
-        fault(1, FIELD + "worth 1|when all;");
-        fault(1, FIELD + "worth 1 |all;");
-        fault(1, FIELD + "worth 1 + |when all;");
-        fault(1, FIELD + "worth 1 |2 when all;");
-        fault(1, FIELD + "worth |[1] when all;");
-        fault(1, FIELD + "worth (1|] when all;");
-        fault(1, FIELD + "worth (|) when all;");
-        fault(1, FIELD + "worth min |1 when all;");
-        fault(1, FIELD + "worth min(1|) when all;");
-        fault(1, FIELD + "worth max(1,2|,3) when all;");
-        fault(1, FIELD + "worth |k when all;");
-        fault(1, FIELD + "worth 1 when|;");
-        fault(1, FIELD + "worth 1 when 1|;");
-        fault(1, FIELD + "worth 1 when 1 <|;");
-        fault(1, FIELD + "worth 1 when 1 = |all;");
-        fault(1, FIELD + "worth 1 when 1 >|> 2;");
-        fault(1, FIELD + "worth 1 * |;");
-        fault(1, FIELD + "worth 1 when [all and|];");
-        fault(1, FIELD + "worth 1 when 1 < 2 |< 3;");
-        fault(1, FIELD + "worth 1 when (1 |< 2);");
-        fault(1, FIELD + "worth 1 when [all|);");
-        fault(1, FIELD + "worth 1 when all |all;");
-        fault(1, FIELD + "worth 1 when not|;");
-        fault(1, FIELD + "worth 1 when all or|;");
-        fault(1, FIELD + "worth 1 when all and |or all;");
-        fault(1, FIELD + "worth 1 when all|");
-        fault(1, FIELD + "worth 1 when 1|not;");
-        fine(2, FIELD + "worth(1)when(1)<(2)and[all]or not all;");
+        CHECK.fault(1, FIELD + "worth|");
+        CHECK.fault(1, FIELD + "worth |when all;");
+        CHECK.fault(1, FIELD + "worth |-1 when all;");
+        CHECK.fault(1, FIELD + "worth 1234|5 when all;");
+        CHECK.fault(1, FIELD + "worth 1|when all;");
+        CHECK.fault(1, FIELD + "worth 1 |all;");
+        CHECK.fault(1, FIELD + "worth 1 + |when all;");
+        CHECK.fault(1, FIELD + "worth 1 |2 when all;");
+        CHECK.fault(1, FIELD + "worth |[1] when all;");
+        CHECK.fault(1, FIELD + "worth (1|] when all;");
+        CHECK.fault(1, FIELD + "worth (|) when all;");
+        CHECK.fault(1, FIELD + "worth min |1 when all;");
+        CHECK.fault(1, FIELD + "worth min(1|) when all;");
+        CHECK.fault(1, FIELD + "worth max(1,2|,3) when all;");
+        CHECK.fault(1, FIELD + "worth |k when all;");
+        CHECK.fault(1, FIELD + "worth 1 when|;");
+        CHECK.fault(1, FIELD + "worth 1 when 1|;");
+        CHECK.fault(1, FIELD + "worth 1 when 1 <|;");
+        CHECK.fault(1, FIELD + "worth 1 when 1 = |all;");
+        CHECK.fault(1, FIELD + "worth 1 when 1 >|> 2;");
+        CHECK.fault(1, FIELD + "worth 1 * |;");
+        CHECK.fault(1, FIELD + "worth 1 when [all and|];");
+        CHECK.fault(1, FIELD + "worth 1 when 1 < 2 |< 3;");
+        CHECK.fault(1, FIELD + "worth 1 when (1 |< 2);");
+        CHECK.fault(1, FIELD + "worth 1 when [all|);");
+        CHECK.fault(1, FIELD + "worth 1 when all |all;");
+        CHECK.fault(1, FIELD + "worth 1 when not|;");
+        CHECK.fault(1, FIELD + "worth 1 when all or|;");
+        CHECK.fault(1, FIELD + "worth 1 when all and |or all;");
+        CHECK.fault(1, FIELD + "worth 1 when all|");
+        CHECK.fault(1, FIELD + "worth 1 when 1|not;");
+        CHECK.fine(2, FIELD + "worth(1)when(1)<(2)and[all]or not all;");
     }
 
     private static void opens() {
-        fine(2, FIELD + "worth ((((((1)))))) when all;");
-        fault(4, FIELD + "worth ((((((|(1))))))) when all;");
-        fine(2, FIELD + "worth 1 when [[[[[[all]]]]]];");
-        fault(4, FIELD + "worth 1 when [[[[[[|[all]]]]]]];");
-        fine(2, FIELD + "worth 1 when not not not not not not all;");
-        fault(4, FIELD + "worth 1 when not not not not not not |not all;");
-        fine(2, FIELD + "worth 1 when not not not not not not all and not not not not not not 1 < 2 or not all;");
-        fault(4, FIELD + "worth 1 when not not not not not not |(1) < 2;");
-        fault(4, FIELD + "worth min(1,min(1,min(1,min(1,min(1,min(1,max|(1,2))))))) when all;");
-        fine(2, FIELD + "worth min(1,min(1,min(1,min(1,min(1,max(1,2)))))) when all;");
-        fault(4, FIELD + "worth 1 when [ not [ not ( ( |( 1 ) ) ) < 2 ] ];");
-        fine(2, FIELD + "worth (1)+(1)+(1)+(1)+(1)+(1)+(1)+(1) when [all] and [all] and [all] and [all] and [all] and [all] and [all];");
-        fault(1, FIELD + "worth ((((((1|;");
+        CHECK.fine(2, FIELD + "worth ((((((1)))))) when all;");
+        CHECK.fault(4, FIELD + "worth ((((((|(1))))))) when all;");
+        CHECK.fine(2, FIELD + "worth 1 when [[[[[[all]]]]]];");
+        CHECK.fault(4, FIELD + "worth 1 when [[[[[[|[all]]]]]]];");
+        CHECK.fine(2, FIELD + "worth 1 when not not not not not not all;");
+        CHECK.fault(4, FIELD + "worth 1 when not not not not not not |not all;");
+        CHECK.fine(2, FIELD + "worth 1 when not not not not not not all and not not not not not not 1 < 2 or not all;");
+        CHECK.fault(4, FIELD + "worth 1 when not not not not not not |(1) < 2;");
+        CHECK.fault(4, FIELD + "worth min(1,min(1,min(1,min(1,min(1,min(1,max|(1,2))))))) when all;");
+        CHECK.fine(2, FIELD + "worth min(1,min(1,min(1,min(1,min(1,max(1,2)))))) when all;");
+        CHECK.fault(4, FIELD + "worth 1 when [ not [ not ( ( |( 1 ) ) ) < 2 ] ];");
+        CHECK.fine(2, FIELD + "worth (1)+(1)+(1)+(1)+(1)+(1)+(1)+(1) when [all] and [all] and [all] and [all] and [all] and [all] and [all];");
+        CHECK.fault(1, FIELD + "worth ((((((1|;");
     }
 
     private static void tooMany() {
@@ -257,35 +235,35 @@ public final class TextTest {
         for (int i = 0; i < 5; i++) {
             five.append("kind k").append((char) ('a' + i)).append(" reach 1;");
         }
-        fine(6, five.toString());
-        fault(5, five + " |kind kf reach 1;");
-        fault(5, five + "|kind at");
-        fault(1, five + "|kinds");
-        fault(3, five + "stone |kf red at 1 1;");
-        fine(7, five + "stone ke red at 1 1;");
+        CHECK.fine(6, five.toString());
+        CHECK.fault(5, five + " |kind kf reach 1;");
+        CHECK.fault(5, five + "|kind at");
+        CHECK.fault(1, five + "|kinds");
+        CHECK.fault(3, five + "stone |kf red at 1 1;");
+        CHECK.fine(7, five + "stone ke red at 1 1;");
         StringBuilder twenty = new StringBuilder(KIND);
         for (int i = 0; i < 20; i++) {
             twenty.append("stone k red at ").append(i % 5).append(' ').append(i / 5).append(";\n");
         }
-        fine(22, twenty.toString());
-        fault(5, twenty + "|stone k red at 0 4;");
-        fault(5, twenty + "|stone 5");
+        CHECK.fine(22, twenty.toString());
+        CHECK.fault(5, twenty + "|stone k red at 0 4;");
+        CHECK.fault(5, twenty + "|stone 5");
         StringBuilder six = new StringBuilder(FIELD);
         for (int i = 0; i < 6; i++) {
             six.append("worth 1 when all;");
         }
-        fine(7, six.toString());
-        fault(5, six + "|worth 1 when all;");
+        CHECK.fine(7, six.toString());
+        CHECK.fault(5, six + "|worth 1 when all;");
         StringBuilder eighty = new StringBuilder(FIELD);
         for (int i = 0; i < 79; i++) {
             eighty.append("land red at 1 1;");
         }
-        fine(80, eighty + "  \n");
-        fault(5, eighty + " |land red at 1 1;");
-        fault(5, eighty + "|;");
-        fault(5, eighty + "\n|x");
-        fault(5, eighty + "|field");
-        fault(5, eighty + "|" + (char) 0);
+        CHECK.fine(80, eighty + "  \n");
+        CHECK.fault(5, eighty + " |land red at 1 1;");
+        CHECK.fault(5, eighty + "|;");
+        CHECK.fault(5, eighty + "\n|x");
+        CHECK.fault(5, eighty + "|field");
+        CHECK.fault(5, eighty + "|" + (char) 0);
     }
 
     /** What a place of a field of 5 and 5 is worth by some rules. */
