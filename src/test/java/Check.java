@@ -141,4 +141,36 @@ final class Check {
         }
         return told.toString();
     }
+
+    /** What the calls answer that ask what would be: threats, lines, plays, truces, rows, rain, and an image. */
+    static String asked(BorderStones x) {
+        StringBuilder told = new StringBuilder();
+        int places = x.has(0) * x.has(1);
+        for (int kind = 0; kind < x.has(2); kind++) {
+            for (int place = 0; place < places; place++) {
+                told.append(x.threat(kind, place, 0)).append(x.threat(kind, place, 1)).append(x.threat(kind, place, 2)).append(' ');
+            }
+            told.append(x.fork(kind)).append('|');
+        }
+        for (int first = 0; first < places; first++) {
+            for (int second = 0; second < places; second++) {
+                told.append(x.line(first, second));
+            }
+            told.append(x.hidden(0x3F7L, 0, 2, first, -1)).append(x.hidden(0x3F7L, 1, 3, first, first)).append(x.look(0x3F7L, 0, 3, first));
+        }
+        for (int n = 1; n <= 3; n++) {
+            told.append('|').append(x.play(n, 0)).append(' ').append(x.play(n, 1));
+            for (int rule = 0; rule < 3; rule++) {
+                told.append(' ').append(x.thumb(rule, n, 0)).append(' ').append(x.thumb(rule, n, 1));
+            }
+        }
+        for (int k = -1; k < 3; k++) {
+            told.append(' ').append(x.truce(k)).append(' ').append(x.answer(k));
+        }
+        told.append(' ').append(x.rows());
+        for (int k = x.image() - 1; k >= 0; k--) {
+            told.append(' ').append(x.octet(k));
+        }
+        return told.toString();
+    }
 }

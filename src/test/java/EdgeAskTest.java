@@ -14,6 +14,7 @@ public final class EdgeAskTest {
     public static void main(String[] args) {
         threatRefused();
         threatTells();
+        threatMarks();
         answerBounds();
         answersNone();
         forkBounds();
@@ -79,6 +80,23 @@ public final class EdgeAskTest {
             CHECK.due("blue answers none by " + place, x.threat(0, place, 2), 0);
         }
         CHECK.due("blue threatens nothing", x.threat(0, 8, 0) + x.threat(0, 8, 1), 0);
+    }
+
+    /** The upper row of the last corner is barred by a STONE: its mark, and those of the ends, tell what would be. */
+    private static void threatMarks() {
+        CHECK.says("(a high one at one end: whatever stands between)");
+        String kinds = "field 5 3;kind s reach 4;kind h reach 4 high;kind u reach 4 sunk;kind c reach 4 child;stone s red at 0 2;stone s red at 4 2;";
+        String[][] told = {{"s", "s", "0300"}, {"s", "u", "3330"}, {"h", "s", "3330"}, {"c", "s", "0000"}, {"c", "u", "0000"}, {"u", "c", "0300"},
+            {"u", "h", "0300"}, {"h", "h", "3330"}};
+        for (String[] one : told) {
+            BorderStones x = Check.with(kinds + "stone " + one[0] + " red at 4 0;stone " + one[1] + " blue at 2 0;");
+            for (int kind = 0; kind < 4; kind++) {
+                int want = one[2].charAt(kind) - '0';
+                CHECK.due("KIND " + kind + " to " + one[0] + " over " + one[1], x.threat(kind, 0, 0), want);
+                CHECK.due("and set", x.set(kind, 0), want);
+                x.undo();
+            }
+        }
     }
 
     private static void answerBounds() {
@@ -325,6 +343,13 @@ public final class EdgeAskTest {
         CHECK.due("the answer loses nothing", x.thumb(0, 1, 1), 0);
         CHECK.due("passing loses the land, twice its WORTH", x.thumb(1, 1, 1), 6);
         CHECK.due("two deep too", x.thumb(1, 2, 1), 6);
+        // it is KIND 0 that is set, not another one
+        x = Check.with("field 5 3;kind s reach 4;kind n reach 1;stone s red at 4 0;stone s red at 0 2;stone s red at 4 2;");
+        CHECK.due("the corner", x.thumb(1, 1, 0), 0);
+        CHECK.due("loses nothing", x.thumb(1, 1, 1), 0);
+        x = Check.with("field 5 3;kind n reach 1;kind s reach 4;stone s red at 4 0;stone s red at 0 2;stone s red at 4 2;");
+        CHECK.due("no corner", x.thumb(1, 1, 0), -1);
+        CHECK.due("PLAY has none either", x.play(1, 0), 0);
         // rule 1 takes the first place of four; two deep the fork is worth two more
         x = Check.with(ROW);
         CHECK.due("one DAY", x.thumb(1, 1, 1), 0);
@@ -376,6 +401,11 @@ public final class EdgeAskTest {
         truce(x, 0, 0, 19);
         // of its places the first
         truce(Check.with(ROW), 0, 0, 8);
+        // the first place of all, by a KIND that is not the first
+        truce(Check.with("field 5 3;kind n reach 1;kind s reach 4;stone s blue at 4 0;stone s blue at 0 2;stone s blue at 4 2;"), 1, 1, 0);
+        // the last KIND and the last place; red bars the slant by which kind d would shut in less
+        truce(Check.with("field 7 3;kind a reach 1;kind b reach 1;kind c reach 1;kind d reach 5;kind e reach 6;stone e blue at 0 0;"
+            + "stone e blue at 6 0;stone e blue at 0 2;stone a red at 5 1;"), 1, 4, 20);
     }
 
     private static void truce(BorderStones x, int side, int kind, int place) {
@@ -425,6 +455,14 @@ public final class EdgeAskTest {
         CHECK.due("LAND elsewhere", Check.with(ring + "land red at 3 0;").rows(), 0);
         CHECK.due("a DAY later", Check.with(ring + "stone s blue at 0 0;land red at 1 1;").rows(), 576);
         CHECK.due("then never nobody's", Check.with(ring + "stone s blue at 0 0;").rows(), 0);
+        // red's 0, 4, 20 shut in 6, 7, 11, unless 12 comes ahead of the last of them: then it is 7 and 11 alone
+        String three = "field 5 5;kind s reach 4;stone s red at 0 0;stone s red at 4 0;stone s red at 2 2;stone s red at 0 4;"
+            + "stone s blue at 3 4;stone s blue at 4 4;stone s blue at 2 4;stone s blue at 4 3;";
+        CHECK.due("12 is the last", Check.with(three + "land red at 1 1;land red at 2 1;land red at 1 2;").rows(), 144);
+        CHECK.due("12 is not the last", Check.with(three + "land red at 2 1;land red at 1 2;").rows(), 432);
+        CHECK.due("never one alone", Check.with(three + "land red at 2 1;").rows(), 0);
+        CHECK.due("never blue's", Check.with(three + "land blue at 2 1;land blue at 1 2;").rows(), 0);
+        CHECK.due("never none", Check.with(three).rows(), 0);
     }
 
     // ---- what rain hides
@@ -524,6 +562,15 @@ public final class EdgeAskTest {
         CHECK.due("and one that may be", x.look(both | 1L << 3, 0, 3, 12), 3);
         CHECK.due("two that may be", x.look(both | 3L, 0, 3, 12), 13);
         CHECK.due("no places", x.look(0, 0, 1, 12), -1);
+        CHECK.says("so many STONES of KIND 0 of a side");
+        String corners = "stone s blue at 4 0;stone s blue at 0 2;stone s blue at 4 2;";
+        x = Check.with("field 5 3;kind s reach 4;kind n reach 1;" + corners);
+        CHECK.due("by the first place", x.hidden(3L, 1, 1, 7, -1), 1);
+        CHECK.due("its ODDS", x.hidden(3L, 1, 1, 7, 0), 1000);
+        CHECK.due("the other's", x.hidden(3L, 1, 1, 7, 1), 0);
+        CHECK.due("look at it", x.look(3L, 1, 1, 7), 0);
+        x = Check.with("field 5 3;kind n reach 1;kind s reach 4;" + corners);
+        CHECK.due("KIND 0 reaches not so far", x.hidden(3L, 1, 1, 7, -1), 0);
     }
 
     // ---- asking

@@ -31,6 +31,7 @@ public final class EdgeDayTest {
         passing();
         undoBounds();
         allAsItWas();
+        marksUndone();
         CHECK.close("EdgeDayTest");
     }
 
@@ -539,6 +540,27 @@ public final class EdgeDayTest {
             for (int i = 44; i >= 5; i--) {
                 CHECK.due("undo", x.undo(), true);
                 CHECK.due("DAY " + i + " of run " + start, Check.all(x), told.get(i));
+            }
+        }
+    }
+
+    /** A STONE that is undone leaves nothing of its KIND behind, wherever it was and whatever is set there then. */
+    private static void marksUndone() {
+        CHECK.says("The latest DAY is undone: all is as it was ahead of it");
+        String text = "field 7 3;kind n reach 6;kind h reach 6 high;kind u reach 6 sunk;kind c reach 6 child;kind t reach 1;"
+            + "stone n red at 0 1;stone n red at 6 1;stone n blue at 3 0;stone n blue at 3 2;stone n red at 0 0;stone n red at 6 0;stone n red at 6 2;";
+        for (int place : new int[] {10, 14, 1}) {
+            for (int second = 0; second < 5; second++) {
+                BorderStones fresh = Check.with(text);
+                fresh.set(second, place);
+                String want = Check.all(fresh) + Check.asked(fresh);
+                for (int first = 0; first < 5; first++) {
+                    BorderStones x = Check.with(text);
+                    x.set(first, place);
+                    x.undo();
+                    x.set(second, place);
+                    CHECK.due("KIND " + second + " behind " + first + " at " + place, Check.all(x) + Check.asked(x), want);
+                }
             }
         }
     }

@@ -1,3 +1,4 @@
+import java.util.ArrayList;
 import java.util.List;
 
 /** Term I and promises 1 to 5, sentence by sentence: what is just within a bound of the text, and just beyond it. */
@@ -36,6 +37,7 @@ public final class EdgeTextTest {
         blanks();
         wholeWords();
         unfitBytes();
+        unfitWords();
         endsTooSoon();
         badNumbers();
         openAtOnce();
@@ -44,6 +46,7 @@ public final class EdgeTextTest {
         tapeGoes();
         staysWithFault();
         beginsAnew();
+        nothingOfAnother();
         faults();
         CHECK.close("EdgeTextTest");
     }
@@ -634,6 +637,45 @@ public final class EdgeTextTest {
         }
     }
 
+    /** Behind each of these, every word and number that cannot come there is the fault. */
+    private static void unfitWords() {
+        CHECK.says("1 the first byte with which no such text goes on");
+        String part = " across down edge min max 3 ";
+        String fact = " not all" + part;
+        String rule = FIELD + "worth ";
+        String test = rule + "1 when ";
+        String[][] spots = {{"", " field "}, {"field ", " 3 "}, {"field 5 ", " 3 "}, {"field 5 5 ", ""}, {FIELD, " kind stone land worth "},
+            {FIELD + "kind ", " k "}, {FIELD + "kind k ", " reach "}, {FIELD + "kind k reach ", " 3 "},
+            {FIELD + "kind k reach 1 ", " high sunk child "}, {KIND, " kind stone land worth "}, {KIND + "stone ", " k "},
+            {KIND + "stone k ", " red blue "}, {KIND + "stone k blue ", " at "}, {KIND + "stone k blue at ", " 3 "},
+            {KIND + "stone k blue at 0 ", " 3 "}, {KIND + "stone k blue at 0 0 ", ""}, {FIELD + "land ", " red blue "},
+            {FIELD + "land red ", " at "}, {FIELD + "land red at ", " 3 "}, {FIELD + "land red at 0 ", " 3 "}, {FIELD + "land red at 0 0 ", ""},
+            {rule, part}, {rule + "1 ", " when "}, {rule + "down ", " when "}, {rule + "1 + ", part}, {rule + "1 - ", part}, {rule + "1 * ", part},
+            {rule + "1 / ", part}, {rule + "1 + 2 ", " when "}, {rule + "1 * 2 ", " when "}, {rule + "(", part}, {rule + "(1 ", ""},
+            {rule + "(1)", " when "}, {rule + "min ", ""}, {rule + "max ", ""}, {rule + "min(", part}, {rule + "min(1 ", ""},
+            {rule + "min(1,", part}, {rule + "max(1,2 ", ""}, {rule + "max(1,2)", " when "}, {test, fact}, {test + "not ", fact},
+            {test + "[", fact}, {test + "all ", " or and "}, {test + "all or ", fact}, {test + "all and ", fact}, {test + "1 ", ""},
+            {test + "1 < ", part}, {test + "1 > ", part}, {test + "1 = ", part}, {test + "1 < 2 ", " or and "}, {test + "[all ", " or and "},
+            {test + "[1 = 2 ", " or and "}, {test + "[all]", " or and "}, {test + "not all ", " or and "}};
+        List<String> tokens = new ArrayList<>(OWN_WORDS);
+        tokens.add("k");
+        tokens.add("3");
+        for (String[] spot : spots) {
+            for (String token : tokens) {
+                if (!spot[1].contains(" " + token + " ")) {
+                    CHECK.fault(1, spot[0] + "|" + token);
+                    CHECK.fault(1, spot[0] + "|" + token + " ;");
+                    CHECK.fault(1, spot[0] + "|" + token + " 1 when all;");
+                    continue;
+                }
+                BorderStones x = new BorderStones();
+                Check.feed(x, spot[0] + token);
+                CHECK.due(spot[0] + token + " ends too soon", x.border(), -1);
+                CHECK.due(spot[0] + token + " goes on", x.fault(0) * 10000 + x.fault(1), 10000 + (spot[0] + token).length());
+            }
+        }
+    }
+
     private static void endsTooSoon() {
         CHECK.says("at the text's length, if it ends too soon)");
         String[] tokens = ("field 5 5 ; kind k reach 2 high sunk ; stone k red at 1 1 ; land blue at 2 2 ; "
@@ -808,6 +850,46 @@ public final class EdgeTextTest {
         z.seed((int) seed);
         z.year(10);
         CHECK.due("the seed stays", Check.all(y), Check.all(z));
+    }
+
+    /** One border behind another, sound or not, on one object: nothing of the first is left in the second. */
+    private static void nothingOfAnother() {
+        CHECK.says("The tape (it goes) is THE BORDER");
+        String[] texts = {"field 3 3;",
+            "field 6 6;kind abcdef reach 6 high;kind b reach 5 sunk;kind c reach 4 child;kind d reach 1;kind e reach 2 high sunk child;"
+                + "stone abcdef red at 0 0;stone b blue at 5 5;stone c red at 3 3;stone d blue at 2 2;stone e red at 1 4;land red at 0 0;"
+                + "land blue at 3 2;worth edge when across > down;worth 9 when all;",
+            "field 5 4;kind x reach 3;kind yz reach 1;stone x red at 0 0;stone x red at 3 0;stone x red at 0 3;stone yz blue at 1 0;",
+            "field 4 5;kind x reach 3 child;kind yz reach 4 high;stone yz blue at 0 0;stone yz blue at 3 0;stone yz blue at 0 3;"
+                + "stone x red at 1 0;land red at 1 1;worth across * down when not all;",
+            "field 7 3;kind q reach 6 sunk;stone q red at 0 0;stone q red at 6 0;stone q red at 0 2;stone q blue at 3 1;worth 5 when down = 1;",
+            "field 7 5;kind k reach 2;worth ((((((1)))))) when not not not [[(1)<2]];",
+            "field 7 5;kind k reach 2 high;worth (((((((1))))))) when all;",
+            "field 6 6;kind k reach 2 high sunk child;kind l reach 1;stone k red at 0 0;land blue at 1 1;worth 3 when [[[[[[not all]]]]]];",
+            "field 3 7;kind abcdefg", "field 6 6;land blue at 2 2;worth 2 when all;worth 3 when min(1,2"};
+        for (String text : texts) {
+            BorderStones fresh = new BorderStones();
+            Check.feed(fresh, text);
+            int statements = fresh.border();
+            if (statements == -1) {
+                continue;
+            }
+            String told = Check.all(fresh) + Check.asked(fresh);
+            for (String ahead : texts) {
+                for (int days : new int[] {0, 9}) {
+                    BorderStones x = Check.with(days == 0 ? texts[1] : texts[2]);
+                    Check.feed(x, ahead);
+                    x.border();
+                    for (int i = 0; i < days; i++) {
+                        x.set(0, i * 5 % 14);
+                    }
+                    Check.asked(x);
+                    Check.feed(x, text);
+                    CHECK.due("border of " + text + " behind " + ahead, x.border(), statements);
+                    CHECK.due("all of " + text + " behind " + ahead, Check.all(x) + Check.asked(x), told);
+                }
+            }
+        }
     }
 
     private static void faults() {

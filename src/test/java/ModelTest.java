@@ -34,7 +34,50 @@ public final class ModelTest {
                 seed = model.seed;
             }
         }
+        rowRuns();
         CHECK.close("ModelTest");
+    }
+
+    /** Borders that grow DAY by DAY from a field without STONES, so that ROWS OF DAYS has LAND to tell apart. */
+    private static void rowRuns() {
+        int withLand = 0;
+        for (int run = 1000; run < 1200; run++) {
+            random = new Random(run);
+            int wide = 4 + random.nextInt(2);
+            model = new Model(wide, 4);
+            model.reach = new int[] {6, 3};
+            model.marks = new int[] {random.nextInt(4), random.nextInt(8)};
+            java.util.Arrays.fill(model.worth, 1);
+            text = "field " + wide + " 4;kind a reach 6" + marks(0) + ";kind b reach 3" + marks(1) + ";";
+            x = Check.with(text);
+            for (int day = 0; day < 9; day++) {
+                int k = random.nextInt(6) == 0 ? 1 : 0;
+                int p = threatening(k);
+                due(run, "set(" + k + ", " + p + ")", x.set(k, p), model.set(k, p));
+                due(run, "rows()", x.rows(), model.rows());
+            }
+            withLand += x.side(0, 5) + x.side(1, 5) > 0 ? 1 : 0;
+        }
+        CHECK.due("enough borders came to have LAND: " + withLand, withLand > 40, true);
+    }
+
+    /** A free place by which something comes to be OWED, if there is one, else any free place. */
+    private static int threatening(int k) {
+        List<Integer> free = new ArrayList<>();
+        for (int p = 0; p < model.places(); p++) {
+            if (model.threat(k, p, 0) > 0) {
+                return p;
+            }
+            if (model.owner[p] == Model.NONE) {
+                free.add(p);
+            }
+        }
+        return free.get(random.nextInt(free.size()));
+    }
+
+    private static String marks(int kind) {
+        return ((model.marks[kind] & 1) != 0 ? " high" : "") + ((model.marks[kind] & 2) != 0 ? " sunk" : "")
+            + ((model.marks[kind] & 4) != 0 ? " child" : "");
     }
 
     private static String tell(int run, String call) {
