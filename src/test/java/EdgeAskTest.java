@@ -380,6 +380,21 @@ public final class EdgeAskTest {
             CHECK.due("truce(" + k + ")", x.truce(k), -1);
         }
         CHECK.due("its own LAND breaks nothing", Check.with(NEARLY + "land red at 2 2;").truce(-1), 1);
+        CHECK.says("A TRUCE: no STONE of any KIND on any place, by either side, makes a part OWED to it");
+        for (String side : new String[] {"red", "blue"}) {
+            x = Check.with("field 3 3;kind s reach 1;stone s " + side + " at 1 0;stone s " + side + " at 0 1;stone s " + side + " at 2 1;");
+            for (int day = 0; day < 3; day++) {
+                CHECK.due("who breaks it on DAY " + day, x.truce(0), side.equals("red") ? 0 : 1);
+                CHECK.due("where", x.truce(2), 7);
+                x.set(0, -1);
+            }
+            // DAY 3 is blue's
+            if (side.equals("red")) {
+                x.set(0, -1);
+            }
+            x.set(0, 7);
+            CHECK.due("no place is left that breaks it", x.truce(-1), 1);
+        }
     }
 
     private static void truceOrder() {
@@ -406,6 +421,11 @@ public final class EdgeAskTest {
         // the last KIND and the last place; red bars the slant by which kind d would shut in less
         truce(Check.with("field 7 3;kind a reach 1;kind b reach 1;kind c reach 1;kind d reach 5;kind e reach 6;stone e blue at 0 0;"
             + "stone e blue at 6 0;stone e blue at 0 2;stone a red at 5 1;"), 1, 4, 20);
+        // a KIND of an earlier border breaks nothing
+        x = Check.with("field 5 3;kind a reach 4;kind h reach 4 high;");
+        Check.feed(x, "field 5 3;kind a reach 4;stone a red at 4 0;stone a red at 0 2;stone a red at 4 2;stone a blue at 2 0;");
+        x.border();
+        CHECK.due("a TRUCE without the high one", x.truce(-1), 1);
     }
 
     private static void truce(BorderStones x, int side, int kind, int place) {
@@ -449,20 +469,38 @@ public final class EdgeAskTest {
         CHECK.says("how many end with LAND as it is now");
         String ring = "field 4 3;kind s reach 1;stone s red at 1 0;stone s red at 0 1;stone s red at 2 1;stone s red at 1 2;"
             + "stone s blue at 3 0;stone s blue at 3 1;stone s blue at 3 2;";
-        CHECK.due("OWED on the last DAY is not lost", Check.with(ring).rows(), 144);
-        CHECK.due("nor red's", Check.with(ring + "land red at 1 1;").rows(), 0);
-        CHECK.due("nor blue's", Check.with(ring + "land blue at 1 1;").rows(), 0);
-        CHECK.due("LAND elsewhere", Check.with(ring + "land red at 3 0;").rows(), 0);
-        CHECK.due("a DAY later", Check.with(ring + "stone s blue at 0 0;land red at 1 1;").rows(), 576);
-        CHECK.due("then never nobody's", Check.with(ring + "stone s blue at 0 0;").rows(), 0);
+        rows("OWED on the last DAY is not lost", ring, 144);
+        rows("nor red's", ring + "land red at 1 1;", 0);
+        rows("nor blue's", ring + "land blue at 1 1;", 0);
+        rows("LAND elsewhere", ring + "land red at 3 0;", 0);
+        rows("a DAY later", ring + "stone s blue at 0 0;land red at 1 1;", 576);
+        rows("then never nobody's", ring + "stone s blue at 0 0;", 0);
         // red's 0, 4, 20 shut in 6, 7, 11, unless 12 comes ahead of the last of them: then it is 7 and 11 alone
         String three = "field 5 5;kind s reach 4;stone s red at 0 0;stone s red at 4 0;stone s red at 2 2;stone s red at 0 4;"
             + "stone s blue at 3 4;stone s blue at 4 4;stone s blue at 2 4;stone s blue at 4 3;";
-        CHECK.due("12 is the last", Check.with(three + "land red at 1 1;land red at 2 1;land red at 1 2;").rows(), 144);
-        CHECK.due("12 is not the last", Check.with(three + "land red at 2 1;land red at 1 2;").rows(), 432);
-        CHECK.due("never one alone", Check.with(three + "land red at 2 1;").rows(), 0);
-        CHECK.due("never blue's", Check.with(three + "land blue at 2 1;land blue at 1 2;").rows(), 0);
-        CHECK.due("never none", Check.with(three).rows(), 0);
+        rows("12 is the last", three + "land red at 1 1;land red at 2 1;land red at 1 2;", 144);
+        rows("12 is not the last", three + "land red at 2 1;land red at 1 2;", 432);
+        rows("never one alone", three + "land red at 2 1;", 0);
+        rows("never blue's", three + "land blue at 2 1;land blue at 1 2;", 0);
+        rows("never none", three, 0);
+        CHECK.says("red first, turn about, each as it is, from a field without STONES and LAND (DAY 0 on)");
+        String corners = "field 5 4;kind s reach 4;kind n reach 1;stone s red at 0 0;stone s red at 4 0;stone s red at 0 2;"
+            + "stone n blue at 0 3;stone n blue at 1 3;stone n blue at 2 3;stone n blue at 3 3;";
+        String middle = "land red at 1 1;land red at 2 1;land red at 3 1;";
+        rows("a corner that reaches far", corners + "stone s red at 4 2;" + middle, 576);
+        rows("so it is never nobody's", corners + "stone s red at 4 2;", 0);
+        rows("a corner that does not", corners + "stone n red at 4 2;" + middle, 0);
+        rows("so it is nobody's", corners + "stone n red at 4 2;", 576);
+    }
+
+    /** The rows of a border, asked ahead of other calls and behind them. */
+    private static void rows(String what, String text, int want) {
+        BorderStones x = Check.with(text);
+        CHECK.due(what, x.rows(), want);
+        x.truce(-1);
+        x.play(1, 0);
+        CHECK.due(what + ", once more", x.rows(), want);
+        CHECK.due(what + ", then all is as it was", Check.all(x), Check.all(Check.with(text)));
     }
 
     // ---- what rain hides

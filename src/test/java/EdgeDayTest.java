@@ -273,6 +273,13 @@ public final class EdgeDayTest {
         x.set(0, -1);
         CHECK.due("a pass", x.set(0, -1), 0);
         CHECK.due("never OWED", x.has(6), 0);
+        // beside a part that was so already, the new one alone is OWED
+        x = Check.with("field 7 3;kind s reach 1;stone s red at 1 0;stone s red at 0 1;stone s red at 2 1;stone s red at 1 2;"
+            + "stone s red at 5 0;stone s red at 4 1;stone s red at 6 1;");
+        CHECK.due("one place", x.set(0, 19), 1);
+        CHECK.due("of two parts", x.side(0, 4), 2);
+        CHECK.due("the new one", x.place(12, 6), 1);
+        CHECK.due("not the old one", x.place(8, 6), 0);
         // a STONE inside makes it other places: it is OWED, each part that is left
         x = Check.with("field 5 3;kind s reach 4;stone s red at 0 0;stone s red at 4 0;stone s red at 0 1;stone s red at 4 1;stone s red at 0 2;"
             + "stone s red at 4 2;kind c reach 1 child;stone c blue at 2 1;");

@@ -497,6 +497,17 @@ public final class EdgeTextTest {
         holds("all or not all and not all", true);
         holds("not all and not all or all", true);
         holds("not all or all and not all", false);
+        for (String facts : new String[] {"2 < 1", "1 < 1", "1 > 2", "1 > 1", "1 = 2", "2 = 1", "not all", "[1 = 2]"}) {
+            holds(facts, false);
+            holds("not " + facts, true);
+            holds(facts + " and all", false);
+            holds("all and " + facts, false);
+            holds(facts + " and " + facts, false);
+            holds(facts + " or " + facts, false);
+            holds(facts + " or all", true);
+            holds("all or " + facts, true);
+            holds("not not " + facts, false);
+        }
         holds("not 1 = 2 and 1 = 1", true);
         holds("not 1 = 1 or 1 = 1", true);
     }
